@@ -1,0 +1,56 @@
+import java.util.ArrayList;
+import java.util.List;
+import java.util.Objects;
+
+/** Counts what tests expect and what they find. */
+final class Check {
+    private static final List<String> FAULTS = new ArrayList<>();
+    private static String part = "";
+    private static int expectations = 0;
+
+    private Check() {
+    }
+
+    /** Runs a part of the tests under a name that faults are told with. */
+    static void part(String name, Runnable test) {
+        part = name;
+        try {
+            test.run();
+        } catch (RuntimeException e) {
+            FAULTS.add(name + ": " + e);
+        }
+    }
+
+    static void same(String what, Object got, Object want) {
+        expectations++;
+        if (!Objects.equals(got, want)) {
+            FAULTS.add(part + ": " + what + " is " + got + ", due is " + want);
+        }
+    }
+
+    static void isTrue(String what, boolean got) {
+        same(what, got, true);
+    }
+
+    /** Expects that a call throws an exception of exactly this class. */
+    static void fails(String what, Class<? extends RuntimeException> due, Runnable call) {
+        Object thrown = "nothing";
+        try {
+            call.run();
+        } catch (RuntimeException e) {
+            thrown = e.getClass();
+        }
+        same("what " + what + " throws", thrown, due);
+    }
+
+    /** Prints the faults and ends the program with 1 if there were any. */
+    static void finish(String name) {
+        for (String fault : FAULTS) {
+            System.out.println(fault);
+        }
+        System.out.println(name + ": " + expectations + " expectations, " + FAULTS.size() + " faults");
+        if (expectations == 0 || !FAULTS.isEmpty()) {
+            System.exit(1);
+        }
+    }
+}
