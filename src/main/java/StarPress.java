@@ -549,13 +549,6 @@ public final class StarPress {
             dy = other.dy;
         }
 
-        void makeNew(int newInk) {
-            Arrays.fill(rows, 0);
-            ink = newInk;
-            dx = 0;
-            dy = 0;
-        }
-
         boolean isStarAt(int x, int y) {
             return (rows[y] & 1 << x) != 0;
         }
@@ -687,14 +680,6 @@ public final class StarPress {
             place = other.place;
         }
 
-        void makeNew() {
-            Arrays.fill(printed, 0);
-            Arrays.fill(meant, 0);
-            wet = 0;
-            smearTotal = 0;
-            place = NONE;
-        }
-
         boolean isWet() {
             return wet > 0;
         }
@@ -813,6 +798,7 @@ public final class StarPress {
 
     /** Everything that changes can change. Its changes return their answer, or a fault and change nothing. */
     private static final class Shop {
+        // Those beyond the totals are always new, as a shop is copied with all of them.
         private final Plate[] plates = new Plate[MOST_PLATES];
         private final Sheet[] sheets = new Sheet[MOST_SHEETS];
         private final int[] inkDrops = new int[INKS];
@@ -858,7 +844,7 @@ public final class StarPress {
             if (plateTotal >= MOST_PLATES) {
                 return BAD_STATE;
             }
-            plates[plateTotal].makeNew(ink);
+            plates[plateTotal].ink = ink;
             plateTotal++;
             return plateTotal - 1;
         }
@@ -922,7 +908,6 @@ public final class StarPress {
             if (sheetTotal >= MOST_SHEETS) {
                 return BAD_STATE;
             }
-            sheets[sheetTotal].makeNew();
             sheetTotal++;
             return sheetTotal - 1;
         }

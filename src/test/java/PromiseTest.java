@@ -312,6 +312,11 @@ public final class PromiseTest {
         x.undo();
         Check.same("dx undone", x.shiftX(0), -3);
         x.addPlate(2);
+        x.addStar(2, 2, 3);
+        Check.same("matches of one star", x.fit(0, 2), 1);
+        Check.same("the smallest dx that has this sum", x.shiftX(0), -1);
+        Check.same("dy", x.shiftY(0), 3);
+        x.removeStar(2, 2, 3);
         Check.same("matches with no stars", x.fit(0, 2), 0);
         Check.same("dx with no stars", x.shiftX(0), 0);
         Check.same("dy with no stars", x.shiftY(0), 0);
@@ -425,8 +430,31 @@ public final class PromiseTest {
         far.addStar(1, 7, 1);
         Check.same("most at the last shift", far.mostMatches(0, 1), 1);
         Check.same("most at the last shift, by pairs", far.mostMatchesByPairs(0, 1), 1);
+        manyStars();
         failsByPair("mostMatches", (y, first, second) -> y.mostMatches(first, second));
         failsByPair("mostMatchesByPairs", (y, first, second) -> y.mostMatchesByPairs(first, second));
+    }
+
+    /** Plates full of stars, that match each other at many shifts. */
+    private static void manyStars() {
+        StarPress x = new StarPress();
+        x.addPlate(1);
+        x.addPlate(2);
+        x.addPlate(4);
+        for (int star = 0; star < 20; star++) {
+            x.addStar(0, star % 5, star / 5);
+            x.addStar(1, star % 5 + 2, star / 5 + 3);
+            x.addStar(2, 15 - star % 10, 7 - star / 10);
+        }
+        int[][] most = {{20, 20, 2}, {20, 20, 8}, {2, 8, 20}};
+        for (int first = 0; first < 3; first++) {
+            for (int second = 0; second < 3; second++) {
+                Check.same("most of " + first + ", " + second, x.mostMatches(first, second), most[first][second]);
+                Check.same("by pairs", x.mostMatchesByPairs(first, second), most[first][second]);
+            }
+        }
+        Check.same("dx", x.bestShiftX(0, 1), 2);
+        Check.same("dy", x.bestShiftY(0, 1), 3);
     }
 
     /** Expects the best shift of a star at (7, 3) and of others that lie so many columns and rows from it. */
@@ -440,6 +468,7 @@ public final class PromiseTest {
         }
         Check.same("best dx", x.bestShiftX(0, 1), dx);
         Check.same("best dy", x.bestShiftY(0, 1), dy);
+        Check.same("most by pairs", x.mostMatchesByPairs(0, 1), x.mostMatches(0, 1));
     }
 
     private static void bestShift() {
@@ -534,7 +563,22 @@ public final class PromiseTest {
         x.print(0, 1);
         Check.same("three inks", x.colour(1, 2, 2), 7);
         Check.same("two intended inks", x.intended(1, 2, 2), 3);
+        sameInkOfTwoPlates();
         failsByPair("print", (y, plate, sheet) -> y.print(plate, sheet));
+    }
+
+    private static void sameInkOfTwoPlates() {
+        StarPress x = new StarPress();
+        x.addSheet();
+        for (int plate = 0; plate < 2; plate++) {
+            x.addPlate(2);
+            x.addStar(plate, 4 + plate, 5);
+            x.print(plate, 0);
+            x.passHours(2);
+        }
+        Check.same("row", row(x, 0, 5), "....22..........");
+        Check.same("intended", x.intended(0, 4, 5), 2);
+        Check.same("intended", x.intended(0, 5, 5), 2);
     }
 
     private static void printWet() {
@@ -1073,6 +1117,29 @@ public final class PromiseTest {
         x.passHours(1);
         Check.isTrue("a used shop", x.isConsistent());
         Check.same("changes", x.undoCount(), 8);
+        fullShop();
+    }
+
+    /** As many plates, stars, sheets and drops as there can be, and what asks for all of them. */
+    private static void fullShop() {
+        StarPress x = withSheets(8);
+        for (int plate = 0; plate < 6; plate++) {
+            x.addPlate(plate % 2 == 0 ? 4 : 1);
+            addStars(x, plate, 128 - 20, 20);
+            x.addInk(plate % 2 == 0 ? 4 : 1, 99);
+        }
+        for (int plate = 0; plate < 6; plate++) {
+            x.print(plate, plate);
+            x.print(5 - plate, plate);
+        }
+        Check.isTrue("a full shop", x.isConsistent());
+        Check.same("mean", x.meanWetness(), 30.0 / 8.0);
+        Check.same("fraction", x.smearedFraction(), 6.0f / 8.0f);
+        Check.same("the first rank", x.sheetByMisprints(0), 0);
+        Check.same("the last rank", x.sheetByMisprints(7), 7);
+        Check.same("dried", x.passHours(9), 6);
+        Check.same("matches", x.mostMatchesByPairs(0, 5), 20);
+        Check.same("row", row(x, 0, 7), "5555555555555555");
     }
 
     // Commands, undo and saved state
@@ -1096,6 +1163,9 @@ public final class PromiseTest {
         String longest = "sheet;sheet;sheet;sheet;sheet;sheet;sheet;sheet;rack 0;out 0";
         Check.same("a text of 60 characters", longest.length(), 60);
         Check.same("its commands", executed(new StarPress(), longest), 10);
+        String endsInNumber = "sheet;sheet;sheet;sheet;sheet;sheet;plate c;print 0>0;hour 1";
+        Check.same("a text of 60 characters", endsInNumber.length(), 60);
+        Check.same("its commands", executed(new StarPress(), endsInNumber), 9);
     }
 
     private static void execute() {
@@ -1236,6 +1306,29 @@ public final class PromiseTest {
         malformed("" + (char) ('s' + 256), 0);
         malformed("sheet;sheet;sheet;sheet;sheet;sheet;sheet;sheet;sheet;sheet;", 60);
         keptErrorPosition();
+        for (String command : whole) {
+            textAfterLongerText(command);
+        }
+        malformed("sheet;sheet;sheet;sheet;sheet;sheet;sheet;sheet;rack 0;shift", 60);
+        malformed("sheet;sheet;sheet;sheet;sheet;sheet;sheet;sheet;out 0;plate ", 60);
+        malformed("sheet;sheet;sheet;sheet;sheet;sheet;sheet;sheet;out 0;out 0;", 60);
+    }
+
+    /** What an earlier text leaves behind in the buffer must not be read with a shorter one. */
+    private static void textAfterLongerText(String command) {
+        StarPress x = new StarPress();
+        for (int length = command.length() - 1; length >= 0; length--) {
+            feedAll(x, "*" + command.substring(1) + "0");
+            Check.fails("a spoilt text", ARGUMENT, x::execute);
+            feedAll(x, command.substring(0, length));
+            if (length < 6 || !command.equals("hour 50")) {
+                Check.fails("a shorter text", ARGUMENT, x::execute);
+                Check.same("error position of a shorter text", x.errorPosition(), length);
+            } else {
+                Check.same("commands of a shorter text", x.execute(), 1);
+                Check.same("hour", x.hour(), 5);
+            }
+        }
     }
 
     /** Spoils one character of a command, by one that goes on with no command at all. */
