@@ -1518,6 +1518,18 @@ public final class PromiseTest {
             Check.same("changes", x.undoCount(), 0);
             Check.fails("undo after restore", STATE, x::undo);
         }
+        restoreOtherInk();
+    }
+
+    private static void restoreOtherInk() {
+        StarPress x = new StarPress();
+        x.addPlate(4);
+        x.save();
+        x.undo();
+        x.addPlate(1);
+        Check.same("ink of the new plate", x.inkOf(0), 1);
+        x.restore();
+        Check.same("ink of the saved plate", x.inkOf(0), 4);
     }
 
     // Calls that throw
