@@ -1,5 +1,6 @@
 import java.util.ArrayList;
 import java.util.List;
+import java.util.NoSuchElementException;
 import java.util.Objects;
 
 /** Counts what tests expect and what they find. */
@@ -17,7 +18,7 @@ final class Check {
         try {
             test.run();
         } catch (RuntimeException e) {
-            FAULTS.add(name + ": " + e);
+            FAULTS.add(name + ": " + e + " at " + e.getStackTrace()[0]);
         }
     }
 
@@ -25,6 +26,17 @@ final class Check {
         expectations++;
         if (!Objects.equals(got, want)) {
             FAULTS.add(part + ": " + what + " is " + got + ", due is " + want);
+        }
+    }
+
+    /** Expects two lists of lines to be the same, and tells only the first line that is not. */
+    static void sameLines(String what, List<String> got, List<String> want) {
+        same("number of lines of " + what, got.size(), want.size());
+        for (int line = 0; line < Math.min(got.size(), want.size()); line++) {
+            if (!got.get(line).equals(want.get(line))) {
+                same("line " + line + " of " + what, got.get(line), want.get(line));
+                return;
+            }
         }
     }
 
@@ -41,6 +53,30 @@ final class Check {
             thrown = e.getClass();
         }
         same("what " + what + " throws", thrown, due);
+    }
+
+    static void throwsArgument(String what, Runnable call) {
+        fails(what, IllegalArgumentException.class, call);
+    }
+
+    static void throwsState(String what, Runnable call) {
+        fails(what, IllegalStateException.class, call);
+    }
+
+    static void throwsIndex(String what, Runnable call) {
+        fails(what, IndexOutOfBoundsException.class, call);
+    }
+
+    static void throwsElement(String what, Runnable call) {
+        fails(what, NoSuchElementException.class, call);
+    }
+
+    static void throwsUnsupported(String what, Runnable call) {
+        fails(what, UnsupportedOperationException.class, call);
+    }
+
+    static void throwsArithmetic(String what, Runnable call) {
+        fails(what, ArithmeticException.class, call);
     }
 
     /** Prints the faults and ends the program with 1 if there were any. */

@@ -1,15 +1,14 @@
-import java.lang.reflect.InvocationTargetException;
-import java.lang.reflect.Method;
 import java.util.ArrayList;
-import java.util.Arrays;
 import java.util.List;
 import java.util.Random;
 
 /** Makes the same calls to the class and to PlainModel, and compares every answer and everything that can be asked. */
 public final class ModelTest {
-    private static final int RUNS = 60;
+    private static final int RUNS = 200;
     private static final int CALLS = 512;
-    private static final int CALLS_PER_LOOK = 12;
+    private static final int CALLS_PER_LOOK = 29;
+    // Later looks would need many shops that had all calls before.
+    private static final int LATEST_LOOK = 400;
 
     // A method stands once for each time that it is as likely as one that stands once.
     private static final String[] CALLED = {
@@ -30,12 +29,11 @@ public final class ModelTest {
     private static final String[] ASKED_BY_PAIR = {
         "mostMatches", "mostMatchesByPairs", "bestShiftX", "bestShiftY", "placesOf",
     };
-    private static final String[] ASKED_BY_PLACE = {"hasStar", "colour", "intended"};
 
     private final Random random;
     private final StarPress real = new StarPress();
     private final PlainModel model = new PlainModel();
-    private final List<String> calls = new ArrayList<>();
+    private final List<Call> calls = new ArrayList<>();
 
     private ModelTest(int seed) {
         random = new Random(seed);
@@ -50,15 +48,24 @@ public final class ModelTest {
     }
 
     private void run() {
-        for (int call = 0; call < CALLS; call++) {
-            String name = CALLED[random.nextInt(CALLED.length)];
-            boolean agrees = name.equals("text") ? feedText() : agree(name, argumentsOf(name));
-            if (!agrees || call % CALLS_PER_LOOK == 0 && !agreeEverywhere()) {
+        int nextLook = CALLS_PER_LOOK;
+        while (calls.size() < CALLS) {
+            boolean agrees = nextStep();
+            if (calls.size() >= nextLook && calls.size() <= LATEST_LOOK) {
+                agrees &= agreeEverywhere();
+                nextLook = calls.size() + CALLS_PER_LOOK;
+            }
+            if (!agrees) {
                 // What comes after the first difference tells nothing new.
                 System.out.println(calls);
                 return;
             }
         }
+    }
+
+    private boolean nextStep() {
+        String name = CALLED[random.nextInt(CALLED.length)];
+        return name.equals("text") ? feedText() : agree(name, argumentsOf(name));
     }
 
     private Object[] argumentsOf(String name) {
@@ -103,12 +110,11 @@ public final class ModelTest {
         if (random.nextInt(3) == 0) {
             spoil(text);
         }
-        for (int index = 0; index < text.length(); index++) {
-            if (!agree("feed", text.charAt(index))) {
-                return false;
-            }
+        boolean agrees = true;
+        for (int index = 0; index < text.length() && calls.size() < CALLS; index++) {
+            agrees &= agree("feed", text.charAt(index));
         }
-        return random.nextInt(8) == 0 || agree("execute");
+        return agrees && (calls.size() >= CALLS || random.nextInt(8) == 0 || agree("execute"));
     }
 
     private void spoil(StringBuilder text) {
@@ -138,73 +144,57 @@ public final class ModelTest {
         };
     }
 
+    /** Asks shops that had the same calls, each up to its last promised answer. */
     private boolean agreeEverywhere() {
-        boolean agrees = agree("matches", 0, 1, 0, 0);
-        for (String name : ASKED_ONCE) {
-            agrees &= agree(name);
-        }
-        for (int index = -1; index <= 9; index++) {
-            for (String name : ASKED_BY_INDEX) {
-                agrees &= agree(name, index);
-            }
-        }
-        for (int index = -1; index <= 16; index++) {
-            agrees &= agree("outputCharacter", index);
-        }
-        for (int first = -1; first <= 8; first++) {
-            for (int second = -1; second <= 8; second++) {
-                for (String name : ASKED_BY_PAIR) {
-                    agrees &= agree(name, first, second);
-                }
-            }
-        }
-        return agrees && agreeOnPlaces();
-    }
-
-    private boolean agreeOnPlaces() {
+        List<Call> questions = questions();
+        int most = CALLS - calls.size();
+        StarPress asked = real;
         boolean agrees = true;
-        for (String name : ASKED_BY_PLACE) {
-            for (int index = 0; index <= 8; index++) {
-                for (int place = 0; place < 128; place++) {
-                    agrees &= agree(name, index, place / 8, place % 8);
-                }
+        for (int index = 0; index < questions.size(); index++) {
+            if (index % most == 0) {
+                asked = Call.realAfter(calls);
             }
+            agrees &= questions.get(index).agrees(asked, model);
         }
         return agrees;
     }
 
-    private boolean agree(String name, Object... arguments) {
-        String call = name + Arrays.toString(arguments);
-        Object got = answer(real, name, arguments);
-        Object want = answer(model, name, arguments);
-        if (Arrays.asList(CALLED).contains(name) || name.equals("feed")) {
-            calls.add(call + "=" + want);
+    private List<Call> questions() {
+        List<Call> questions = new ArrayList<>();
+        for (String name : ASKED_ONCE) {
+            questions.add(new Call(name));
         }
-        Check.same(call, got, want);
-        return got.equals(want);
-    }
-
-    /** Returns what a call answers, or the class of what it throws. */
-    private static Object answer(Object asked, String name, Object... arguments) {
-        try {
-            return method(asked.getClass(), name).invoke(asked, arguments);
-        } catch (InvocationTargetException e) {
-            return e.getCause().getClass();
-        } catch (IllegalAccessException e) {
-            throw new IllegalStateException(e);
+        for (int index = -1; index <= 16; index++) {
+            questions.add(new Call("outputCharacter", index));
         }
-    }
-
-    private static final java.util.Map<String, Method> METHODS = new java.util.HashMap<>();
-
-    private static Method method(Class<?> type, String name) {
-        return METHODS.computeIfAbsent(type.getName() + "." + name, key -> {
-            for (Method method : type.getMethods()) {
-                if (method.getName().equals(name)) {
-                    return method;
+        int most = Math.max(model.plateCount(), model.sheetCount());
+        for (int first = -1; first <= most; first++) {
+            for (String name : ASKED_BY_INDEX) {
+                questions.add(new Call(name, first));
+            }
+            for (int second = -1; second <= 8; second++) {
+                for (String name : ASKED_BY_PAIR) {
+                    questions.add(new Call(name, first, second));
                 }
             }
-            throw new IllegalStateException("no method " + key);
-        });
+        }
+        addPlaceQuestions(questions, "hasStar", model.plateCount());
+        addPlaceQuestions(questions, "colour", model.sheetCount());
+        addPlaceQuestions(questions, "intended", model.sheetCount());
+        return questions;
+    }
+
+    private static void addPlaceQuestions(List<Call> questions, String name, int count) {
+        for (int index = 0; index < count; index++) {
+            for (int place = 0; place < 128; place++) {
+                questions.add(new Call(name, index, place % 16, place / 16));
+            }
+        }
+    }
+
+    private boolean agree(String name, Object... arguments) {
+        Call call = new Call(name, arguments);
+        calls.add(call);
+        return call.agrees(real, model);
     }
 }

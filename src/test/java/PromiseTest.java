@@ -3,18 +3,9 @@ import java.util.function.Consumer;
 
 /** For each promise of the document, in its order: ordinary calls, the edges that it names, and wrong calls. */
 public final class PromiseTest {
-    private static final Class<IllegalArgumentException> ARGUMENT = IllegalArgumentException.class;
-    private static final Class<IllegalStateException> STATE = IllegalStateException.class;
-    private static final Class<IndexOutOfBoundsException> INDEX = IndexOutOfBoundsException.class;
-    private static final Class<NoSuchElementException> ELEMENT = NoSuchElementException.class;
-    private static final Class<UnsupportedOperationException> UNSUPPORTED = UnsupportedOperationException.class;
-    private static final Class<ArithmeticException> ARITHMETIC = ArithmeticException.class;
-
-    private static final int MIN = Integer.MIN_VALUE;
-    private static final int MAX = Integer.MAX_VALUE;
-    private static final int[] NO_SUCH_INDEX = {-1, 2, 6, 8, MIN, MAX};
-    private static final int[][] NO_PLACE = {{-1, 0}, {16, 0}, {0, -1}, {0, 8}, {MIN, 0}, {0, MAX}};
-    private static final int[][] NO_SHIFT = {{-4, 0}, {4, 0}, {0, -4}, {0, 4}, {MIN, 0}, {0, MAX}};
+    private static final int[] NO_SUCH_INDEX = {-1, 2, 6, 8, Shops.MIN, Shops.MAX};
+    private static final int[][] NO_PLACE = {{-1, 0}, {16, 0}, {0, -1}, {0, 8}, {Shops.MIN, 0}, {0, Shops.MAX}};
+    private static final int[][] NO_SHIFT = {{-4, 0}, {4, 0}, {0, -4}, {0, 4}, {Shops.MIN, 0}, {0, Shops.MAX}};
 
     public static void main(String[] args) {
         plates();
@@ -22,7 +13,6 @@ public final class PromiseTest {
         rackInkAndTime();
         refusalsStatisticsAndOutput();
         commandsUndoAndSavedState();
-        Check.part("no change by a call that throws", PromiseTest::thrownCallsChangeNothing);
         Check.finish("PromiseTest");
     }
 
@@ -109,50 +99,15 @@ public final class PromiseTest {
         return x;
     }
 
-    private static void addStars(StarPress x, int plate, int first, int count) {
-        for (int place = first; place < first + count; place++) {
-            x.addStar(plate, place % 16, place / 16);
-        }
-    }
-
-    /** A shop with a plate of so many CYAN stars and a sheet that it was printed on. */
-    private static StarPress printed(int stars) {
-        StarPress x = new StarPress();
-        x.addPlate(StarPress.CYAN);
-        addStars(x, 0, 0, stars);
-        x.addSheet();
-        x.print(0, 0);
-        return x;
-    }
-
-    private static StarPress withSheets(int count) {
-        StarPress x = new StarPress();
-        for (int sheet = 0; sheet < count; sheet++) {
-            x.addSheet();
-        }
-        return x;
-    }
-
-    private static void feedAll(StarPress x, String text) {
-        for (int index = 0; index < text.length(); index++) {
-            x.feed(text.charAt(index));
-        }
-    }
-
-    private static int executed(StarPress x, String text) {
-        feedAll(x, text);
-        return x.execute();
-    }
-
     private interface ByIndex {
         void call(StarPress x, int index);
     }
 
     private static void failsByIndex(String what, ByIndex asked) {
         for (int index : NO_SUCH_INDEX) {
-            Check.fails(what + " of " + index, INDEX, () -> asked.call(shop(), index));
+            Check.throwsIndex(what + " of " + index, () -> asked.call(shop(), index));
         }
-        Check.fails(what + " in an empty shop", INDEX, () -> asked.call(new StarPress(), 0));
+        Check.throwsIndex(what + " in an empty shop", () -> asked.call(new StarPress(), 0));
     }
 
     private interface ByPair {
@@ -166,7 +121,7 @@ public final class PromiseTest {
 
     private static void failsByPlace(String what, ByPair asked) {
         for (int[] place : NO_PLACE) {
-            Check.fails(what + " at " + place[0] + ", " + place[1], ARGUMENT,
+            Check.throwsArgument(what + " at " + place[0] + ", " + place[1],
                     () -> asked.call(shop(), place[0], place[1]));
         }
     }
@@ -184,7 +139,7 @@ public final class PromiseTest {
         }
         for (int place = 0; place < 3; place++) {
             int free = place;
-            Check.fails("place " + place, ELEMENT, () -> x.sheetInRack(free));
+            Check.throwsElement("place " + place, () -> x.sheetInRack(free));
         }
         Check.same("CYAN", StarPress.CYAN, 1);
         Check.same("MAGENTA", StarPress.MAGENTA, 2);
@@ -206,10 +161,10 @@ public final class PromiseTest {
             Check.same("dx", x.shiftX(plate), 0);
             Check.same("dy", x.shiftY(plate), 0);
         }
-        Check.fails("a seventh plate", STATE, () -> x.addPlate(1));
-        for (int ink : new int[] {-1, 0, 3, 5, 6, 7, 8, MIN, MAX}) {
-            Check.fails("ink " + ink, ARGUMENT, () -> new StarPress().addPlate(ink));
-            Check.fails("a seventh plate with ink " + ink, ARGUMENT, () -> x.addPlate(ink));
+        Check.throwsState("a seventh plate", () -> x.addPlate(1));
+        for (int ink : new int[] {-1, 0, 3, 5, 6, 7, 8, Shops.MIN, Shops.MAX}) {
+            Check.throwsArgument("ink " + ink, () -> new StarPress().addPlate(ink));
+            Check.throwsArgument("a seventh plate with ink " + ink, () -> x.addPlate(ink));
         }
         Check.same("plates", x.plateCount(), 6);
         newPlateAfterUndo();
@@ -238,17 +193,17 @@ public final class PromiseTest {
         Check.same("stars", x.addStar(0, 0, 7), 5);
         Check.isTrue("star at a corner", x.hasStar(0, 15, 7) && x.hasStar(0, 15, 0) && x.hasStar(0, 0, 7));
         Check.isTrue("no star on the other plate", !x.hasStar(1, 15, 7));
-        Check.fails("a second star at a place", STATE, () -> x.addStar(0, 15, 7));
+        Check.throwsState("a second star at a place", () -> x.addStar(0, 15, 7));
         Check.same("a star at the same place of another plate", x.addStar(1, 15, 7), 4);
         failsByIndex("addStar", (y, index) -> y.addStar(index, 0, 0));
         failsByIndex("addStar beside the plate", (y, index) -> y.addStar(index, 16, 8));
         failsByPlace("addStar", (y, column, row) -> y.addStar(0, column, row));
         StarPress full = new StarPress();
         full.addPlate(1);
-        addStars(full, 0, 30, 19);
+        Shops.addStars(full, 0, 30, 19);
         Check.same("the last star", full.addStar(0, 0, 0), 20);
-        Check.fails("star 21", STATE, () -> full.addStar(0, 9, 7));
-        Check.fails("star 21 beside the plate", ARGUMENT, () -> full.addStar(0, 16, 7));
+        Check.throwsState("star 21", () -> full.addStar(0, 9, 7));
+        Check.throwsArgument("star 21 beside the plate", () -> full.addStar(0, 16, 7));
         Check.same("stars", full.starCount(0), 20);
     }
 
@@ -257,8 +212,8 @@ public final class PromiseTest {
         Check.same("stars", x.removeStar(1, 4, 1), 2);
         Check.isTrue("no star", !x.hasStar(1, 4, 1));
         Check.isTrue("the other stars", x.hasStar(1, 1, 1) && x.hasStar(1, 9, 7));
-        Check.fails("a second removal", ELEMENT, () -> x.removeStar(1, 4, 1));
-        Check.fails("a star of the other plate", ELEMENT, () -> x.removeStar(0, 1, 1));
+        Check.throwsElement("a second removal", () -> x.removeStar(1, 4, 1));
+        Check.throwsElement("a star of the other plate", () -> x.removeStar(0, 1, 1));
         Check.same("stars", x.removeStar(1, 9, 7), 1);
         Check.same("stars", x.removeStar(1, 1, 1), 0);
         failsByIndex("removeStar", (y, index) -> y.removeStar(index, 0, 0));
@@ -290,7 +245,7 @@ public final class PromiseTest {
         failsByIndex("setShift", (y, index) -> y.setShift(index, 1, 1));
         failsByIndex("setShift too far", (y, index) -> y.setShift(index, 4, -4));
         for (int[] shift : NO_SHIFT) {
-            Check.fails("a shift too far", ARGUMENT, () -> x.setShift(0, shift[0], shift[1]));
+            Check.throwsArgument("a shift too far", () -> x.setShift(0, shift[0], shift[1]));
         }
     }
 
@@ -320,9 +275,9 @@ public final class PromiseTest {
         Check.same("matches with no stars", x.fit(0, 2), 0);
         Check.same("dx with no stars", x.shiftX(0), 0);
         Check.same("dy with no stars", x.shiftY(0), 0);
-        Check.fails("fit to itself", ARGUMENT, () -> x.fit(1, 1));
-        Check.fails("fit of no plate to itself", INDEX, () -> x.fit(3, 3));
-        Check.fails("fit of no plate to itself", INDEX, () -> x.fit(-1, -1));
+        Check.throwsArgument("fit to itself", () -> x.fit(1, 1));
+        Check.throwsIndex("fit of no plate to itself", () -> x.fit(3, 3));
+        Check.throwsIndex("fit of no plate to itself", () -> x.fit(-1, -1));
         failsByPair("fit", (y, first, second) -> y.fit(first, second));
     }
 
@@ -396,7 +351,7 @@ public final class PromiseTest {
         edges.addPlate(1);
         edges.addStar(0, 15, 3);
         edges.addStar(0, 15, 7);
-        addStars(edges, 1, 64, 4);
+        Shops.addStars(edges, 1, 64, 4);
         edges.addStar(1, 0, 0);
         Check.same("no place goes on in the next row", edges.matches(0, 1, 1, 0), 0);
         Check.same("no place goes on in the first row", edges.matches(0, 1, 1, 1), 0);
@@ -404,8 +359,8 @@ public final class PromiseTest {
         failsByPair("matches", (y, first, second) -> y.matches(first, second, 0, 0));
         failsByPair("matches too far", (y, first, second) -> y.matches(first, second, 4, 4));
         for (int[] shift : NO_SHIFT) {
-            Check.fails("a shift too far", ARGUMENT, () -> x.matches(0, 1, shift[0], shift[1]));
-            Check.fails("a shift of a plate to itself too far", ARGUMENT, () -> x.matches(0, 0, shift[0], shift[1]));
+            Check.throwsArgument("a shift too far", () -> x.matches(0, 1, shift[0], shift[1]));
+            Check.throwsArgument("a shift of a plate to itself too far", () -> x.matches(0, 0, shift[0], shift[1]));
         }
     }
 
@@ -504,7 +459,7 @@ public final class PromiseTest {
             Check.same("smears", x.smears(sheet), 0);
             Check.same("misprints", x.misprints(sheet), 0);
         }
-        Check.fails("a ninth sheet", STATE, x::addSheet);
+        Check.throwsState("a ninth sheet", x::addSheet);
         Check.same("sheets", x.sheetCount(), 8);
         newSheetAfterUndo();
     }
@@ -521,13 +476,13 @@ public final class PromiseTest {
         for (int i = 0; i < 4; i++) {
             x.undo();
         }
-        Check.fails("the place of no sheet", ELEMENT, () -> x.sheetInRack(0));
+        Check.throwsElement("the place of no sheet", () -> x.sheetInRack(0));
         x.addSheet();
         Check.same("places without colour", x.placesOf(0, 0), 128);
         Check.same("intended", x.intended(0, 5, 5), 0);
         Check.same("wetness", x.wetness(0), 0);
         Check.same("smears", x.smears(0), 0);
-        Check.fails("rackPlace", ELEMENT, () -> x.rackPlace(0));
+        Check.throwsElement("rackPlace", () -> x.rackPlace(0));
     }
 
     private static void print() {
@@ -576,7 +531,7 @@ public final class PromiseTest {
             x.print(plate, 0);
             x.passHours(2);
         }
-        Check.same("row", row(x, 0, 5), "....22..........");
+        Check.same("row", Shops.row(x, 0, 5), "....22..........");
         Check.same("intended", x.intended(0, 4, 5), 2);
         Check.same("intended", x.intended(0, 5, 5), 2);
     }
@@ -594,65 +549,50 @@ public final class PromiseTest {
         x.addSheet();
         x.print(0, 0);
         x.print(1, 0);
-        Check.same("smeared and printed", row(x, 0, 0), "15..............");
-        Check.same("smeared into the last column", row(x, 0, 3), "..............11");
-        Check.same("not smeared into the next row", row(x, 0, 4), "................");
-        Check.same("the last column smears nowhere", row(x, 0, 7), "................");
-        Check.same("no smear of what is printed then", row(x, 0, 6), "..4............1");
+        Check.same("smeared and printed", Shops.row(x, 0, 0), "15..............");
+        Check.same("smeared into the last column", Shops.row(x, 0, 3), "..............11");
+        Check.same("not smeared into the next row", Shops.row(x, 0, 4), "................");
+        Check.same("the last column smears nowhere", Shops.row(x, 0, 7), "................");
+        Check.same("no smear of what is printed then", Shops.row(x, 0, 6), "..4............1");
         Check.same("smears", x.smears(0), 1);
         Check.same("intended places do not smear", x.intended(0, 1, 0), 4);
         x.print(2, 0);
-        Check.same("smeared by one place each time, by all inks", row(x, 0, 0), "155.............");
+        Check.same("smeared by one place each time, by all inks", Shops.row(x, 0, 0), "155.............");
         Check.same("smears", x.smears(0), 2);
         Check.same("wetness by a plate without stars", x.wetness(0), 0);
         x.print(2, 0);
-        Check.same("a dry sheet does not smear", row(x, 0, 0), "155.............");
+        Check.same("a dry sheet does not smear", Shops.row(x, 0, 0), "155.............");
         Check.same("smears", x.smears(0), 2);
         Check.same("drops", x.drops(2), 60);
     }
 
-    private static String row(StarPress x, int sheet, int y) {
-        StringBuilder row = new StringBuilder();
-        int length = x.writeRow(sheet, y);
-        for (int index = 0; index < length; index++) {
-            row.append(x.outputCharacter(index));
-        }
-        return row.toString();
-    }
-
-    private static void refused(StarPress x, Runnable call, int reason, int detail) {
-        Check.fails("a refused call", UNSUPPORTED, call);
-        Check.same("reason", x.refusalReason(), reason);
-        Check.same("detail", x.refusalDetail(), detail);
-    }
-
     private static void printRefused() {
-        StarPress x = printed(20);
+        StarPress x = Shops.printed(20);
         x.passHours(10);
         x.print(0, 0);
         x.passHours(10);
         Check.same("the last drops suffice", x.print(0, 0), 0);
         Check.same("drops", x.drops(1), 0);
         x.passHours(10);
-        refused(x, () -> x.print(0, 0), StarPress.NO_INK, 20);
+        Shops.refused(x, () -> x.print(0, 0), StarPress.NO_INK, 20);
         x.addInk(1, 13);
-        refused(x, () -> x.print(0, 0), StarPress.NO_INK, 7);
+        Shops.refused(x, () -> x.print(0, 0), StarPress.NO_INK, 7);
         x.addSheet();
         x.addSheet();
         x.putInRack(1);
         x.putInRack(2);
         x.putInRack(0);
-        refused(x, () -> x.print(0, 0), StarPress.IN_RACK, 2);
+        Shops.refused(x, () -> x.print(0, 0), StarPress.IN_RACK, 2);
         x.takeOut(1);
-        refused(x, () -> x.print(0, 2), StarPress.IN_RACK, 1);
-        Check.fails("a plate that is not there on a sheet in the rack", INDEX, () -> x.print(1, 2));
+        Shops.refused(x, () -> x.print(0, 2), StarPress.IN_RACK, 1);
+        Check.throwsIndex("a plate that is not there on a sheet in the rack", () -> x.print(1, 2));
         x.addPlate(2);
-        refused(x, () -> x.print(1, 0), StarPress.IN_RACK, 2);
+        Shops.refused(x, () -> x.print(1, 0), StarPress.IN_RACK, 2);
         x.takeOut(0);
         Check.same("no stars need no drops", x.print(1, 0), 0);
         Check.same("drops", x.drops(1), 13);
         x.addInk(1, 6);
-        refused(x, () -> x.print(0, 0), StarPress.NO_INK, 1);
+        Shops.refused(x, () -> x.print(0, 0), StarPress.NO_INK, 1);
         x.addInk(1, 1);
         Check.same("beside", x.print(0, 0), 0);
         Check.same("drops", x.drops(1), 0);
@@ -730,8 +670,8 @@ public final class PromiseTest {
             sum += found;
         }
         Check.same("places of all colours", sum, 128);
-        for (int colour : new int[] {-1, 8, MIN, MAX}) {
-            Check.fails("colour " + colour, ARGUMENT, () -> x.placesOf(0, colour));
+        for (int colour : new int[] {-1, 8, Shops.MIN, Shops.MAX}) {
+            Check.throwsArgument("colour " + colour, () -> x.placesOf(0, colour));
             failsByIndex("placesOf", (y, index) -> y.placesOf(index, colour));
         }
         failsByIndex("placesOf", (y, index) -> y.placesOf(index, 0));
@@ -739,16 +679,16 @@ public final class PromiseTest {
 
     private static void wetness() {
         for (int stars = 0; stars <= 20; stars++) {
-            Check.same("wetness of " + stars, printed(stars).wetness(0), (stars + 3) / 4);
+            Check.same("wetness of " + stars, Shops.printed(stars).wetness(0), (stars + 3) / 4);
         }
-        StarPress x = printed(20);
+        StarPress x = Shops.printed(20);
         x.addPlate(4);
         x.addStar(1, 0, 0);
         x.print(1, 0);
         Check.same("wetness by the last plate alone", x.wetness(0), 1);
         StarPress beside = new StarPress();
         beside.addPlate(1);
-        addStars(beside, 0, 0, 5);
+        Shops.addStars(beside, 0, 0, 5);
         beside.setShift(0, 0, -1);
         beside.addSheet();
         beside.print(0, 0);
@@ -757,7 +697,7 @@ public final class PromiseTest {
     }
 
     private static void smears() {
-        StarPress x = printed(1);
+        StarPress x = Shops.printed(1);
         Check.same("smears", x.smears(0), 0);
         for (int times = 1; times <= 5; times++) {
             x.print(0, 0);
@@ -791,7 +731,7 @@ public final class PromiseTest {
     }
 
     private static void sheetByMisprints() {
-        StarPress x = withSheets(5);
+        StarPress x = Shops.withSheets(5);
         for (int rank = 0; rank < 5; rank++) {
             Check.same("rank " + rank, x.sheetByMisprints(rank), rank);
         }
@@ -813,32 +753,32 @@ public final class PromiseTest {
             Check.same("misprints of " + sheet, x.misprints(sheet), misprints[sheet]);
             Check.same("rank " + rank, x.sheetByMisprints(rank), order[rank]);
         }
-        for (int rank : new int[] {-1, 5, 8, MIN, MAX}) {
-            Check.fails("rank " + rank, ELEMENT, () -> x.sheetByMisprints(rank));
+        for (int rank : new int[] {-1, 5, 8, Shops.MIN, Shops.MAX}) {
+            Check.throwsElement("rank " + rank, () -> x.sheetByMisprints(rank));
         }
-        Check.fails("rank 0 of no sheets", ELEMENT, () -> new StarPress().sheetByMisprints(0));
+        Check.throwsElement("rank 0 of no sheets", () -> new StarPress().sheetByMisprints(0));
     }
 
     // Rack, ink and time
 
     private static void putInRack() {
-        StarPress x = withSheets(5);
+        StarPress x = Shops.withSheets(5);
         Check.same("place", x.putInRack(3), 0);
         Check.same("place", x.putInRack(1), 1);
         Check.same("place", x.putInRack(4), 2);
-        refused(x, () -> x.putInRack(0), StarPress.RACK_FULL, 3);
-        Check.fails("a sheet that is in the full rack", STATE, () -> x.putInRack(1));
+        Shops.refused(x, () -> x.putInRack(0), StarPress.RACK_FULL, 3);
+        Check.throwsState("a sheet that is in the full rack", () -> x.putInRack(1));
         x.takeOut(3);
         x.takeOut(1);
-        Check.fails("a sheet that is in the rack", STATE, () -> x.putInRack(4));
+        Check.throwsState("a sheet that is in the rack", () -> x.putInRack(4));
         Check.same("the smallest free place", x.putInRack(2), 0);
         Check.same("the next free place", x.putInRack(3), 1);
         failsByIndex("putInRack", (y, index) -> y.putInRack(index));
-        Check.fails("no sheet into the full rack", INDEX, () -> x.putInRack(5));
+        Check.throwsIndex("no sheet into the full rack", () -> x.putInRack(5));
     }
 
     private static void takeOut() {
-        StarPress x = withSheets(4);
+        StarPress x = Shops.withSheets(4);
         x.putInRack(2);
         x.putInRack(0);
         x.putInRack(3);
@@ -847,37 +787,37 @@ public final class PromiseTest {
         Check.same("place", x.takeOut(2), 0);
         for (int sheet = 0; sheet < 4; sheet++) {
             int outside = sheet;
-            Check.fails("a sheet outside", STATE, () -> x.takeOut(outside));
+            Check.throwsState("a sheet outside", () -> x.takeOut(outside));
         }
         failsByIndex("takeOut", (y, index) -> y.takeOut(index));
     }
 
     private static void rackPlace() {
-        StarPress x = withSheets(4);
+        StarPress x = Shops.withSheets(4);
         x.putInRack(2);
         x.putInRack(0);
         x.putInRack(3);
         Check.same("place", x.rackPlace(2), 0);
         Check.same("place", x.rackPlace(0), 1);
         Check.same("place", x.rackPlace(3), 2);
-        Check.fails("a sheet outside", ELEMENT, () -> x.rackPlace(1));
+        Check.throwsElement("a sheet outside", () -> x.rackPlace(1));
         x.takeOut(2);
-        Check.fails("a sheet that was taken out", ELEMENT, () -> x.rackPlace(2));
+        Check.throwsElement("a sheet that was taken out", () -> x.rackPlace(2));
         Check.same("the others stay", x.rackPlace(3), 2);
         failsByIndex("rackPlace", (y, index) -> y.rackPlace(index));
     }
 
     private static void sheetInRack() {
-        StarPress x = withSheets(4);
+        StarPress x = Shops.withSheets(4);
         x.putInRack(2);
         x.putInRack(0);
         x.putInRack(3);
         x.takeOut(0);
         Check.same("sheet", x.sheetInRack(0), 2);
-        Check.fails("a free place", ELEMENT, () -> x.sheetInRack(1));
+        Check.throwsElement("a free place", () -> x.sheetInRack(1));
         Check.same("sheet", x.sheetInRack(2), 3);
-        for (int place : new int[] {-1, 3, MIN, MAX}) {
-            Check.fails("place " + place, INDEX, () -> x.sheetInRack(place));
+        for (int place : new int[] {-1, 3, Shops.MIN, Shops.MAX}) {
+            Check.throwsIndex("place " + place, () -> x.sheetInRack(place));
         }
     }
 
@@ -890,15 +830,15 @@ public final class PromiseTest {
         for (int times = 0; times < 3; times++) {
             x.addInk(2, 99);
         }
-        Check.fails("501 drops", STATE, () -> x.addInk(2, 45));
+        Check.throwsState("501 drops", () -> x.addInk(2, 45));
         Check.same("500 drops", x.addInk(2, 44), 500);
-        Check.fails("501 drops", STATE, () -> x.addInk(2, 1));
-        for (int drops : new int[] {0, -1, 100, MIN, MAX}) {
-            Check.fails("drops " + drops, ARGUMENT, () -> x.addInk(1, drops));
-            Check.fails("too many drops " + drops, ARGUMENT, () -> x.addInk(2, drops));
+        Check.throwsState("501 drops", () -> x.addInk(2, 1));
+        for (int drops : new int[] {0, -1, 100, Shops.MIN, Shops.MAX}) {
+            Check.throwsArgument("drops " + drops, () -> x.addInk(1, drops));
+            Check.throwsArgument("too many drops " + drops, () -> x.addInk(2, drops));
         }
-        for (int ink : new int[] {-1, 0, 3, 5, 6, 7, 8, MIN, MAX}) {
-            Check.fails("ink " + ink, ARGUMENT, () -> x.addInk(ink, 1));
+        for (int ink : new int[] {-1, 0, 3, 5, 6, 7, 8, Shops.MIN, Shops.MAX}) {
+            Check.throwsArgument("ink " + ink, () -> x.addInk(ink, 1));
         }
     }
 
@@ -910,17 +850,17 @@ public final class PromiseTest {
         Check.same("drops", x.drops(1), 58);
         Check.same("drops", x.drops(2), 65);
         Check.same("drops", x.drops(4), 57);
-        for (int ink : new int[] {-1, 0, 3, 5, 6, 7, 8, MIN, MAX}) {
-            Check.fails("ink " + ink, ARGUMENT, () -> x.drops(ink));
+        for (int ink : new int[] {-1, 0, 3, 5, 6, 7, 8, Shops.MIN, Shops.MAX}) {
+            Check.throwsArgument("ink " + ink, () -> x.drops(ink));
         }
     }
 
     private static void passHours() {
         StarPress x = new StarPress();
         x.addPlate(1);
-        addStars(x, 0, 0, 13);
+        Shops.addStars(x, 0, 0, 13);
         x.addPlate(2);
-        addStars(x, 1, 0, 7);
+        Shops.addStars(x, 1, 0, 7);
         for (int sheet = 0; sheet < 4; sheet++) {
             x.addSheet();
         }
@@ -939,10 +879,10 @@ public final class PromiseTest {
         Check.same("dried", x.passHours(50), 1);
         expectWetness(x, 0, 0, 0, 0);
         Check.same("dried", x.passHours(50), 0);
-        for (int hours : new int[] {0, -1, 51, MIN, MAX}) {
-            Check.fails("hours " + hours, ARGUMENT, () -> x.passHours(hours));
+        for (int hours : new int[] {0, -1, 51, Shops.MIN, Shops.MAX}) {
+            Check.throwsArgument("hours " + hours, () -> x.passHours(hours));
         }
-        StarPress odd = printed(1);
+        StarPress odd = Shops.printed(1);
         odd.putInRack(0);
         Check.same("a wetness of 1 in the rack", odd.passHours(1), 1);
         Check.same("wetness", odd.wetness(0), 0);
@@ -964,19 +904,19 @@ public final class PromiseTest {
         Check.same("hour", x.hour(), 1);
         x.passHours(50);
         Check.same("hour", x.hour(), 51);
-        executed(x, "hour 9;hour 10");
+        Shops.executed(x, "hour 9;hour 10");
         Check.same("hour", x.hour(), 70);
     }
 
     private static void hoursUntilDry() {
         for (int stars = 0; stars <= 20; stars++) {
             int wet = (stars + 3) / 4;
-            StarPress x = printed(stars);
+            StarPress x = Shops.printed(stars);
             untilDry(x, wet == 0 ? 0 : 2 * wet - 1);
             x.putInRack(0);
             untilDry(x, (wet + 1) / 2);
-            StarPress odd = printed(0);
-            addStars(odd, 0, 0, stars);
+            StarPress odd = Shops.printed(0);
+            Shops.addStars(odd, 0, 0, stars);
             odd.passHours(1);
             odd.print(0, 0);
             untilDry(odd, 2 * wet);
@@ -1005,37 +945,37 @@ public final class PromiseTest {
     // Refusals, statistics and output
 
     private static void refusals() {
-        StarPress x = withSheets(4);
-        Check.fails("no reason", ELEMENT, x::refusalReason);
-        Check.fails("no detail", ELEMENT, x::refusalDetail);
-        Check.fails("no sheet", INDEX, () -> x.putInRack(4));
+        StarPress x = Shops.withSheets(4);
+        Check.throwsElement("no reason", x::refusalReason);
+        Check.throwsElement("no detail", x::refusalDetail);
+        Check.throwsIndex("no sheet", () -> x.putInRack(4));
         x.putInRack(0);
-        Check.fails("a sheet that is in the rack", STATE, () -> x.putInRack(0));
-        Check.fails("still no reason", ELEMENT, x::refusalReason);
-        Check.fails("still no detail", ELEMENT, x::refusalDetail);
+        Check.throwsState("a sheet that is in the rack", () -> x.putInRack(0));
+        Check.throwsElement("still no reason", x::refusalReason);
+        Check.throwsElement("still no detail", x::refusalDetail);
         x.putInRack(1);
         x.putInRack(2);
         x.save();
-        refused(x, () -> x.putInRack(3), StarPress.RACK_FULL, 3);
+        Shops.refused(x, () -> x.putInRack(3), StarPress.RACK_FULL, 3);
         x.takeOut(0);
         x.undo();
         x.restore();
         Check.same("the reason stays", x.refusalReason(), StarPress.RACK_FULL);
         Check.same("the detail stays", x.refusalDetail(), 3);
         x.addPlate(1);
-        refused(x, () -> x.print(0, 2), StarPress.IN_RACK, 2);
+        Shops.refused(x, () -> x.print(0, 2), StarPress.IN_RACK, 2);
         Check.same("a success", x.print(0, 3), 0);
         Check.same("the reason stays", x.refusalReason(), StarPress.IN_RACK);
         Check.same("the detail stays", x.refusalDetail(), 2);
-        feedAll(x, "hour 1;rack 3");
-        Check.fails("a refused command", UNSUPPORTED, x::execute);
+        Shops.feedAll(x, "hour 1;rack 3");
+        Check.throwsUnsupported("a refused command", x::execute);
         Check.same("the reason of a command", x.refusalReason(), StarPress.RACK_FULL);
         Check.same("the detail of a command", x.refusalDetail(), 3);
     }
 
     private static void meanWetness() {
-        Check.fails("no sheets", ARITHMETIC, () -> new StarPress().meanWetness());
-        StarPress x = printed(20);
+        Check.throwsArithmetic("no sheets", () -> new StarPress().meanWetness());
+        StarPress x = Shops.printed(20);
         Check.same("mean", x.meanWetness(), 5.0);
         x.addSheet();
         Check.same("mean", x.meanWetness(), 2.5);
@@ -1048,8 +988,8 @@ public final class PromiseTest {
     }
 
     private static void smearedFraction() {
-        Check.fails("no sheets", ARITHMETIC, () -> new StarPress().smearedFraction());
-        StarPress x = printed(1);
+        Check.throwsArithmetic("no sheets", () -> new StarPress().smearedFraction());
+        StarPress x = Shops.printed(1);
         Check.same("fraction", x.smearedFraction(), 0.0f);
         x.print(0, 0);
         x.print(0, 0);
@@ -1064,26 +1004,26 @@ public final class PromiseTest {
 
     private static void output() {
         StarPress x = shop();
-        Check.fails("a character of no output", INDEX, () -> x.outputCharacter(0));
+        Check.throwsIndex("a character of no output", () -> x.outputCharacter(0));
         x.print(0, 0);
         x.print(1, 0);
         Check.same("length", x.writeRow(0, 1), 16);
-        Check.same("row", row(x, 0, 1), ".4..4...........");
-        Check.same("row", row(x, 0, 0), "11.11...........");
-        Check.same("row", row(x, 0, 7), ".........4......");
-        Check.same("another sheet", row(x, 1, 0), "................");
+        Check.same("row", Shops.row(x, 0, 1), ".4..4...........");
+        Check.same("row", Shops.row(x, 0, 0), "11.11...........");
+        Check.same("row", Shops.row(x, 0, 7), ".........4......");
+        Check.same("another sheet", Shops.row(x, 1, 0), "................");
         Check.same("the last row is the output", x.outputCharacter(0), '.');
-        for (int index : new int[] {-1, 16, MIN, MAX}) {
-            Check.fails("character " + index, INDEX, () -> x.outputCharacter(index));
+        for (int index : new int[] {-1, 16, Shops.MIN, Shops.MAX}) {
+            Check.throwsIndex("character " + index, () -> x.outputCharacter(index));
         }
         x.writeRow(0, 0);
         x.undo();
         x.undo();
         Check.same("undo leaves the output", x.outputCharacter(0), '1');
-        Check.fails("a row that is not there", ARGUMENT, () -> x.writeRow(0, 8));
+        Check.throwsArgument("a row that is not there", () -> x.writeRow(0, 8));
         Check.same("the output stays", x.outputCharacter(0), '1');
-        for (int y : new int[] {-1, 8, MIN, MAX}) {
-            Check.fails("row " + y, ARGUMENT, () -> x.writeRow(0, y));
+        for (int y : new int[] {-1, 8, Shops.MIN, Shops.MAX}) {
+            Check.throwsArgument("row " + y, () -> x.writeRow(0, y));
             failsByIndex("writeRow " + y, (z, index) -> z.writeRow(index, y));
         }
         failsByIndex("writeRow", (z, index) -> z.writeRow(index, 0));
@@ -1103,7 +1043,7 @@ public final class PromiseTest {
             x.print(plate, 0);
             x.passHours(10);
         }
-        Check.same("all colours", row(x, 0, 5), ".1234567.1234567");
+        Check.same("all colours", Shops.row(x, 0, 5), ".1234567.1234567");
     }
 
     private static void isConsistent() {
@@ -1122,10 +1062,10 @@ public final class PromiseTest {
 
     /** As many plates, stars, sheets and drops as there can be, and what asks for all of them. */
     private static void fullShop() {
-        StarPress x = withSheets(8);
+        StarPress x = Shops.withSheets(8);
         for (int plate = 0; plate < 6; plate++) {
             x.addPlate(plate % 2 == 0 ? 4 : 1);
-            addStars(x, plate, 128 - 20, 20);
+            Shops.addStars(x, plate, 128 - 20, 20);
             x.addInk(plate % 2 == 0 ? 4 : 1, 99);
         }
         for (int plate = 0; plate < 6; plate++) {
@@ -1139,7 +1079,7 @@ public final class PromiseTest {
         Check.same("the last rank", x.sheetByMisprints(7), 7);
         Check.same("dried", x.passHours(9), 6);
         Check.same("matches", x.mostMatchesByPairs(0, 5), 20);
-        Check.same("row", row(x, 0, 7), "5555555555555555");
+        Check.same("row", Shops.row(x, 0, 7), "5555555555555555");
     }
 
     // Commands, undo and saved state
@@ -1149,8 +1089,8 @@ public final class PromiseTest {
         for (int length = 1; length <= 60; length++) {
             Check.same("length", x.feed((char) (length * 1000)), length);
         }
-        Check.fails("character 61", STATE, () -> x.feed('a'));
-        Check.fails("a long text", ARGUMENT, x::execute);
+        Check.throwsState("character 61", () -> x.feed('a'));
+        Check.throwsArgument("a long text", x::execute);
         Check.same("length after execute", x.feed('s'), 1);
         x.addSheet();
         x.save();
@@ -1158,50 +1098,50 @@ public final class PromiseTest {
         x.restore();
         Check.same("undo and restore leave the buffer", x.feed('h'), 2);
         Check.same("feeding is no change", x.undoCount(), 0);
-        feedAll(x, "eet");
+        Shops.feedAll(x, "eet");
         Check.same("commands", x.execute(), 1);
         String longest = "sheet;sheet;sheet;sheet;sheet;sheet;sheet;sheet;rack 0;out 0";
         Check.same("a text of 60 characters", longest.length(), 60);
-        Check.same("its commands", executed(new StarPress(), longest), 10);
+        Check.same("its commands", Shops.executed(new StarPress(), longest), 10);
         String endsInNumber = "sheet;sheet;sheet;sheet;sheet;sheet;plate c;print 0>0;hour 1";
         Check.same("a text of 60 characters", endsInNumber.length(), 60);
-        Check.same("its commands", executed(new StarPress(), endsInNumber), 9);
+        Check.same("its commands", Shops.executed(new StarPress(), endsInNumber), 9);
     }
 
     private static void execute() {
         StarPress x = new StarPress();
-        Check.same("commands", executed(x, "plate c;plate m;plate y"), 3);
+        Check.same("commands", Shops.executed(x, "plate c;plate m;plate y"), 3);
         Check.same("inks", "" + x.inkOf(0) + x.inkOf(1) + x.inkOf(2), "124");
-        Check.same("commands", executed(x, "star 0 5,2;star 0 05,3;star 1 15,7;star 2 0,0"), 4);
+        Check.same("commands", Shops.executed(x, "star 0 5,2;star 0 05,3;star 1 15,7;star 2 0,0"), 4);
         Check.isTrue("stars", x.hasStar(0, 5, 2) && x.hasStar(0, 5, 3) && x.hasStar(1, 15, 7) && x.hasStar(2, 0, 0));
-        Check.same("commands", executed(x, "shift 0+3-2;shift 1-1+0;shift 2-0+1"), 3);
+        Check.same("commands", Shops.executed(x, "shift 0+3-2;shift 1-1+0;shift 2-0+1"), 3);
         Check.same("shift", x.shiftX(0) + ", " + x.shiftY(0), "3, -2");
         Check.same("shift", x.shiftX(1) + ", " + x.shiftY(1), "-1, 0");
         Check.same("shift", x.shiftX(2) + ", " + x.shiftY(2), "0, 1");
-        Check.same("commands", executed(x, "sheet"), 1);
-        Check.same("commands", executed(x, "sheet;sheet"), 2);
+        Check.same("commands", Shops.executed(x, "sheet"), 1);
+        Check.same("commands", Shops.executed(x, "sheet;sheet"), 2);
         Check.same("sheets", x.sheetCount(), 3);
-        Check.same("commands", executed(x, "print 0>0;print 1>2"), 2);
+        Check.same("commands", Shops.executed(x, "print 0>0;print 1>2"), 2);
         Check.same("colour", x.colour(0, 8, 0), 1);
         Check.same("colour", x.colour(2, 14, 7), 2);
-        Check.same("commands", executed(x, "rack 2;rack 1;out 2"), 3);
+        Check.same("commands", Shops.executed(x, "rack 2;rack 1;out 2"), 3);
         Check.same("place", x.rackPlace(1), 1);
-        Check.fails("a sheet that was taken out", ELEMENT, () -> x.rackPlace(2));
-        Check.same("commands", executed(x, "hour 5;hour 50;hour 07"), 3);
+        Check.throwsElement("a sheet that was taken out", () -> x.rackPlace(2));
+        Check.same("commands", Shops.executed(x, "hour 5;hour 50;hour 07"), 3);
         Check.same("hour", x.hour(), 62);
         Check.same("changes", x.undoCount(), 8);
-        Check.fails("the buffer is empty", ARGUMENT, x::execute);
+        Check.throwsArgument("the buffer is empty", x::execute);
         x.undo();
         Check.same("all commands are undone at once", x.hour(), 0);
         x.undo();
-        Check.fails("a sheet in the rack before", ELEMENT, () -> x.rackPlace(1));
+        Check.throwsElement("a sheet in the rack before", () -> x.rackPlace(1));
     }
 
     private static void failing(String commands, int failed) {
         StarPress x = new StarPress();
-        executed(x, "plate c;star 0 1,1;sheet;sheet");
-        feedAll(x, commands);
-        Check.fails(commands, UNSUPPORTED, x::execute);
+        Shops.executed(x, "plate c;star 0 1,1;sheet;sheet");
+        Shops.feedAll(x, commands);
+        Check.throwsUnsupported(commands, x::execute);
         Check.same("failed command of " + commands, x.failedCommand(), failed);
         Check.same("plates", x.plateCount(), 1);
         Check.same("stars", x.starCount(0), 1);
@@ -1210,10 +1150,10 @@ public final class PromiseTest {
         Check.same("wetness", x.wetness(0), 0);
         Check.same("drops", x.drops(1), 60);
         Check.same("hour", x.hour(), 0);
-        Check.fails("a sheet in the rack", ELEMENT, () -> x.sheetInRack(0));
+        Check.throwsElement("a sheet in the rack", () -> x.sheetInRack(0));
         Check.same("changes", x.undoCount(), 1);
         Check.same("the buffer is empty", x.feed('x'), 1);
-        Check.fails("no error position", ELEMENT, x::errorPosition);
+        Check.throwsElement("no error position", x::errorPosition);
     }
 
     private static void executeFailing() {
@@ -1238,12 +1178,12 @@ public final class PromiseTest {
         failing("plate c;plate c;plate c;plate c;plate c;plate c", 5);
         failing("sheet;sheet;sheet;sheet;sheet;sheet;sheet", 6);
         failing("sheet;rack 0;rack 1;rack 2;out 0;rack 0;sheet;rack 3", 7);
-        StarPress x = withSheets(1);
+        StarPress x = Shops.withSheets(1);
         for (int times = 0; times < 9; times++) {
             x.passHours(1);
         }
-        feedAll(x, "hour 1;out 0");
-        Check.fails("out 0", UNSUPPORTED, x::execute);
+        Shops.feedAll(x, "hour 1;out 0");
+        Check.throwsUnsupported("out 0", x::execute);
         for (int left = 7; left >= 0; left--) {
             Check.same("the oldest change is still there", x.undo(), left);
         }
@@ -1251,20 +1191,20 @@ public final class PromiseTest {
     }
 
     private static void malformed(String text, int position) {
-        StarPress x = withSheets(1);
-        feedAll(x, text);
-        Check.fails("'" + text + "'", ARGUMENT, x::execute);
+        StarPress x = Shops.withSheets(1);
+        Shops.feedAll(x, text);
+        Check.throwsArgument("'" + text + "'", x::execute);
         Check.same("error position of '" + text + "'", x.errorPosition(), position);
         Check.same("sheets", x.sheetCount(), 1);
         Check.same("changes", x.undoCount(), 1);
         Check.same("the buffer is empty", x.feed('x'), 1);
-        Check.fails("no failed command", ELEMENT, x::failedCommand);
+        Check.throwsElement("no failed command", x::failedCommand);
     }
 
     private static void errorPosition() {
-        Check.fails("none at first", ELEMENT, () -> new StarPress().errorPosition());
-        String[] whole = {"plate c", "star 0 5,2", "star 0 15,2", "shift 0+1-2", "sheet", "print 0>1", "rack 0", "out 0",
-            "hour 5", "hour 50"};
+        Check.throwsElement("none at first", () -> new StarPress().errorPosition());
+        String[] whole = {"plate c", "star 0 5,2", "star 0 15,2", "shift 0+1-2", "sheet", "print 0>1", "rack 0",
+            "out 0", "hour 5", "hour 50"};
         for (String command : whole) {
             for (int length = 0; length < command.length(); length++) {
                 if (!command.equals("hour 50") || length < 6) {
@@ -1318,11 +1258,11 @@ public final class PromiseTest {
     private static void textAfterLongerText(String command) {
         StarPress x = new StarPress();
         for (int length = command.length() - 1; length >= 0; length--) {
-            feedAll(x, "*" + command.substring(1) + "0");
-            Check.fails("a spoilt text", ARGUMENT, x::execute);
-            feedAll(x, command.substring(0, length));
+            Shops.feedAll(x, "*" + command.substring(1) + "0");
+            Check.throwsArgument("a spoilt text", x::execute);
+            Shops.feedAll(x, command.substring(0, length));
             if (length < 6 || !command.equals("hour 50")) {
-                Check.fails("a shorter text", ARGUMENT, x::execute);
+                Check.throwsArgument("a shorter text", x::execute);
                 Check.same("error position of a shorter text", x.errorPosition(), length);
             } else {
                 Check.same("commands of a shorter text", x.execute(), 1);
@@ -1339,80 +1279,61 @@ public final class PromiseTest {
     private static void keptErrorPosition() {
         StarPress x = new StarPress();
         x.save();
-        feedAll(x, "sheet!");
-        Check.fails("malformed", ARGUMENT, x::execute);
-        executed(x, "sheet");
+        Shops.feedAll(x, "sheet!");
+        Check.throwsArgument("malformed", x::execute);
+        Shops.executed(x, "sheet");
         x.undo();
         x.restore();
-        feedAll(x, "out 0");
-        Check.fails("a failed command", UNSUPPORTED, x::execute);
+        Shops.feedAll(x, "out 0");
+        Check.throwsUnsupported("a failed command", x::execute);
         Check.same("the error position stays", x.errorPosition(), 5);
-        Check.fails("nothing fed", ARGUMENT, x::execute);
+        Check.throwsArgument("nothing fed", x::execute);
         Check.same("the error position of no text", x.errorPosition(), 0);
     }
 
     private static void failedCommand() {
         StarPress x = new StarPress();
-        Check.fails("none at first", ELEMENT, x::failedCommand);
+        Check.throwsElement("none at first", x::failedCommand);
         x.save();
-        feedAll(x, "sheet;sheet;out 1");
-        Check.fails("a failed command", UNSUPPORTED, x::execute);
+        Shops.feedAll(x, "sheet;sheet;out 1");
+        Check.throwsUnsupported("a failed command", x::execute);
         Check.same("failed command", x.failedCommand(), 2);
-        executed(x, "sheet");
+        Shops.executed(x, "sheet");
         x.undo();
         x.restore();
-        feedAll(x, "sheets");
-        Check.fails("malformed", ARGUMENT, x::execute);
+        Shops.feedAll(x, "sheets");
+        Check.throwsArgument("malformed", x::execute);
         Check.same("the failed command stays", x.failedCommand(), 2);
-        feedAll(x, "out 1");
-        Check.fails("a failed command", UNSUPPORTED, x::execute);
+        Shops.feedAll(x, "out 1");
+        Check.throwsUnsupported("a failed command", x::execute);
         Check.same("failed command", x.failedCommand(), 0);
     }
 
-    private static String told(StarPress x) {
-        StringBuilder text = new StringBuilder();
-        text.append(x.plateCount()).append(' ').append(x.sheetCount()).append(' ').append(x.hour());
-        for (int ink : new int[] {1, 2, 4}) {
-            text.append(' ').append(x.drops(ink));
-        }
-        for (int plate = 0; plate < x.plateCount(); plate++) {
-            text.append("\nplate ").append(x.inkOf(plate)).append(' ').append(x.shiftX(plate)).append(' ')
-                    .append(x.shiftY(plate)).append(' ').append(x.starCount(plate)).append(' ');
-            for (int place = 0; place < 128; place++) {
-                text.append(x.hasStar(plate, place % 16, place / 16) ? '*' : '.');
-            }
-        }
-        for (int sheet = 0; sheet < x.sheetCount(); sheet++) {
-            text.append("\nsheet ").append(x.wetness(sheet)).append(' ').append(x.smears(sheet)).append(' ')
-                    .append(rackTold(x, sheet)).append(' ');
-            for (int place = 0; place < 128; place++) {
-                text.append(x.colour(sheet, place % 16, place / 16)).append(x.intended(sheet, place % 16, place / 16));
-            }
-        }
-        return text.toString();
-    }
-
-    private static String rackTold(StarPress x, int sheet) {
-        try {
-            return x.rackPlace(sheet) + (x.sheetInRack(x.rackPlace(sheet)) == sheet ? "" : "?");
-        } catch (NoSuchElementException e) {
-            return "outside";
-        }
-    }
-
-    private static void undone(String what, Consumer<StarPress> change) {
+    private static StarPress beforeChange() {
         StarPress x = shop();
         x.print(0, 0);
         x.putInRack(0);
         x.setShift(1, 1, 2);
         x.save();
         x.restore();
-        String before = told(x);
+        return x;
+    }
+
+    private static StarPress changedAndUndone(Consumer<StarPress> change) {
+        StarPress x = beforeChange();
+        change.accept(x);
+        x.undo();
+        return x;
+    }
+
+    private static void undone(String what, Consumer<StarPress> change) {
+        StarPress x = beforeChange();
         change.accept(x);
         Check.same("changes after " + what, x.undoCount(), 1);
         Check.same("undo of " + what, x.undo(), 0);
-        Check.same("state after undo of " + what, told(x), before);
-        Check.fails("undo of nothing", STATE, x::undo);
+        Check.throwsState("undo of nothing", x::undo);
+        Check.sameLines("undo of " + what, Shops.told(() -> changedAndUndone(change)),
+                Shops.told(PromiseTest::beforeChange));
     }
 
     private static void undoEachChange() {
@@ -1428,12 +1349,12 @@ public final class PromiseTest {
         undone("takeOut", x -> x.takeOut(0));
         undone("addInk", x -> x.addInk(1, 99));
         undone("passHours", x -> x.passHours(1));
-        undone("execute", x -> executed(x, "print 0>1;print 1>1;out 0;plate m;sheet;hour 2"));
+        undone("execute", x -> Shops.executed(x, "print 0>1;print 1>1;out 0;plate m;sheet;hour 2"));
     }
 
     private static void undo() {
         StarPress x = new StarPress();
-        Check.fails("undo of nothing", STATE, x::undo);
+        Check.throwsState("undo of nothing", x::undo);
         for (int hours = 1; hours <= 11; hours++) {
             x.passHours(hours);
         }
@@ -1443,7 +1364,7 @@ public final class PromiseTest {
             Check.same("changes left", x.undo(), left);
             Check.same("hour", x.hour(), hour);
         }
-        Check.fails("undo of the third latest change", STATE, x::undo);
+        Check.throwsState("undo of the third latest change", x::undo);
         Check.same("hour", x.hour(), 6);
         x.passHours(1);
         x.passHours(2);
@@ -1461,7 +1382,7 @@ public final class PromiseTest {
             x.passHours(1);
             Check.same("changes", x.undoCount(), Math.min(8, changes));
         }
-        Check.fails("a call that throws", ARGUMENT, () -> x.passHours(0));
+        Check.throwsArgument("a call that throws", () -> x.passHours(0));
         Check.same("changes", x.undoCount(), 8);
         x.undo();
         Check.same("changes", x.undoCount(), 7);
@@ -1470,54 +1391,78 @@ public final class PromiseTest {
         x.feed('x');
         x.isConsistent();
         Check.same("changes", x.undoCount(), 7);
-        Check.fails("a call that throws", INDEX, () -> x.print(0, 0));
+        Check.throwsIndex("a call that throws", () -> x.print(0, 0));
         Check.same("changes", x.undoCount(), 7);
         x.addSheet();
         x.writeRow(0, 0);
         Check.same("changes", x.undoCount(), 8);
     }
 
-    private static void save() {
-        StarPress x = new StarPress();
-        Check.same("sheets", x.save(), 0);
-        StarPress y = shop();
-        y.print(0, 0);
-        y.putInRack(0);
-        Check.same("sheets", y.save(), 2);
-        Check.same("changes stay", y.undoCount(), 8);
-        String saved = told(y);
-        y.undo();
-        y.restore();
-        Check.same("what was saved", told(y), saved);
-        y.addSheet();
-        Check.same("sheets", y.save(), 3);
-        y.undo();
-        Check.same("the latest save", y.restore(), 3);
-    }
-
-    private static void restore() {
+    /** A used shop with changes that can be undone. */
+    private static StarPress used() {
         StarPress x = shop();
-        Check.fails("nothing saved", STATE, x::restore);
-        Check.same("changes stay", x.undoCount(), 8);
         x.print(1, 0);
         x.print(1, 0);
         x.putInRack(0);
         x.setShift(0, 1, -1);
         x.addInk(2, 7);
         x.passHours(3);
+        return x;
+    }
+
+    private static StarPress savedAndRestored(Consumer<StarPress> between) {
+        StarPress x = used();
         x.save();
-        String saved = told(x);
+        between.accept(x);
+        x.restore();
+        return x;
+    }
+
+    private static void savedThrough(String what, Consumer<StarPress> between) {
+        Check.sameLines("what was saved before " + what,
+                Shops.without(Shops.told(() -> savedAndRestored(between)), "changes"),
+                Shops.without(Shops.told(PromiseTest::used), "changes"));
+    }
+
+    private static void save() {
+        StarPress x = new StarPress();
+        Check.same("sheets", x.save(), 0);
+        StarPress y = used();
+        Check.same("sheets", y.save(), 2);
+        Check.same("changes stay", y.undoCount(), 8);
+        y.addSheet();
+        Check.same("sheets", y.save(), 3);
+        y.undo();
+        Check.same("the latest save", y.restore(), 3);
+        savedThrough("nothing", z -> { });
+        savedThrough("an undo", StarPress::undo);
+        savedThrough("changes", PromiseTest::changeMuch);
+    }
+
+    private static void changeMuch(StarPress x) {
+        Shops.executed(x, "plate m;star 0 9,1;shift 1+1+1;out 0;print 0>0;rack 1");
+        x.passHours(5);
+        x.addInk(1, 9);
+        x.addSheet();
+        x.removeStar(0, 0, 0);
+    }
+
+    private static void restore() {
+        StarPress x = used();
+        Check.throwsState("nothing saved", x::restore);
+        Check.same("changes stay", x.undoCount(), 8);
+        x.save();
         for (int times = 0; times < 2; times++) {
-            executed(x, "plate m;star 0 9,1;shift 1+1+1;out 0;print 0>0;rack 1");
-            x.passHours(5);
-            x.addInk(1, 9);
-            x.addSheet();
-            x.removeStar(0, 0, 0);
+            changeMuch(x);
             Check.same("sheets", x.restore(), 2);
-            Check.same("state", told(x), saved);
             Check.same("changes", x.undoCount(), 0);
-            Check.fails("undo after restore", STATE, x::undo);
+            Check.throwsState("undo after restore", x::undo);
         }
+        savedThrough("a restore and changes", y -> {
+            changeMuch(y);
+            y.restore();
+            changeMuch(y);
+        });
         restoreOtherInk();
     }
 
@@ -1530,60 +1475,5 @@ public final class PromiseTest {
         Check.same("ink of the new plate", x.inkOf(0), 1);
         x.restore();
         Check.same("ink of the saved plate", x.inkOf(0), 4);
-    }
-
-    // Calls that throw
-
-    private static void unchangedBy(StarPress x, Runnable call) {
-        String before = told(x);
-        int changes = x.undoCount();
-        Object thrown = null;
-        try {
-            call.run();
-        } catch (RuntimeException e) {
-            thrown = e;
-        }
-        Check.isTrue("the call throws", thrown != null);
-        Check.same("state after " + thrown, told(x), before);
-        Check.same("changes after " + thrown, x.undoCount(), changes);
-    }
-
-    private static void thrownCallsChangeNothing() {
-        StarPress x = shop();
-        x.addSheet();
-        x.addSheet();
-        x.print(0, 0);
-        x.print(1, 0);
-        x.putInRack(0);
-        x.putInRack(1);
-        x.putInRack(2);
-        x.addPlate(2);
-        addStars(x, 2, 40, 20);
-        for (int times = 0; times < 3; times++) {
-            x.passHours(50);
-            x.print(2, 3);
-        }
-        unchangedBy(x, () -> x.addPlate(3));
-        unchangedBy(x, () -> x.addStar(0, 0, 0));
-        unchangedBy(x, () -> x.addStar(0, 16, 0));
-        unchangedBy(x, () -> x.addStar(2, 0, 0));
-        unchangedBy(x, () -> x.removeStar(0, 1, 0));
-        unchangedBy(x, () -> x.setShift(0, 3, 4));
-        unchangedBy(x, () -> x.setShift(0, -4, 3));
-        unchangedBy(x, () -> x.fit(0, 0));
-        unchangedBy(x, () -> x.fit(0, 3));
-        unchangedBy(x, () -> x.print(0, 0));
-        unchangedBy(x, () -> x.print(2, 3));
-        unchangedBy(x, () -> x.putInRack(0));
-        unchangedBy(x, () -> x.putInRack(3));
-        unchangedBy(x, () -> x.takeOut(3));
-        unchangedBy(x, () -> x.addInk(1, 100));
-        unchangedBy(x, () -> x.addInk(3, 10));
-        unchangedBy(x, () -> x.passHours(51));
-        unchangedBy(x, () -> executed(x, "hour 1;out 0;print 0>0;print 2>3"));
-        unchangedBy(x, () -> executed(x, "hour 1;out 0;print 0>0;print"));
-        unchangedBy(x, x::restore);
-        Check.same("the hours of the latest change", x.undo(), 7);
-        Check.same("drops after undo", x.drops(2), 20);
     }
 }
