@@ -36,7 +36,7 @@ record Call(String name, Object... arguments) {
     boolean agrees(StarPress real, PlainModel model) {
         Object want = answer(model);
         Object got = answer(real);
-        Check.same(toString(), got, want);
+        Check.same(this, got, want);
         return got.equals(want);
     }
 

@@ -22,7 +22,7 @@ final class Check {
         }
     }
 
-    static void same(String what, Object got, Object want) {
+    static void same(Object what, Object got, Object want) {
         expectations++;
         if (!Objects.equals(got, want)) {
             FAULTS.add(part + ": " + what + " is " + got + ", due is " + want);

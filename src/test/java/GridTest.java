@@ -71,54 +71,9 @@ public final class GridTest {
 
     public static void main(String[] args) {
         Check.part("an empty shop", () -> compare(List.of()));
-        Check.part("a used shop", () -> compare(used()));
-        Check.part("a full shop", () -> compare(full()));
+        Check.part("a used shop", () -> compare(Runs.used()));
+        Check.part("a full shop", () -> compare(Runs.full()));
         Check.finish("GridTest");
-    }
-
-    private static void addText(List<Call> calls, String text) {
-        for (char sign : text.toCharArray()) {
-            calls.add(new Call("feed", sign));
-        }
-        calls.add(new Call("execute"));
-    }
-
-    private static List<Call> used() {
-        List<Call> calls = new ArrayList<>();
-        addText(calls, "plate c;plate y;star 0 0,0;star 0 15,0;star 0 3,3");
-        addText(calls, "star 1 15,7;star 1 0,3;sheet;sheet;sheet;print 0>0;hour 1");
-        addText(calls, "shift 1+2-1;print 1>0;rack 0;rack 2;out 0;sheep");
-        calls.add(new Call("save"));
-        addText(calls, "rack 0;rack 2;out 1");
-        calls.add(new Call("print", 1, 1));
-        calls.add(new Call("writeRow", 0, 0));
-        addText(calls, "print 1>0;out 2;hour 1");
-        return calls;
-    }
-
-    private static List<Call> full() {
-        List<Call> calls = new ArrayList<>();
-        for (int plate = 0; plate < 6; plate++) {
-            calls.add(new Call("addPlate", 1 << plate % 3));
-            for (int place = 20 * plate; place < 20 * plate + 20; place++) {
-                calls.add(new Call("addStar", plate, place % 16, place / 16));
-            }
-        }
-        for (int sheet = 0; sheet < 8; sheet++) {
-            calls.add(new Call("addSheet"));
-        }
-        for (int drops : new int[] {99, 99, 99, 99, 43}) {
-            calls.add(new Call("addInk", 2, drops));
-        }
-        for (int sheet = 2; sheet >= 0; sheet--) {
-            calls.add(new Call("print", 0, sheet));
-            calls.add(new Call("putInRack", sheet));
-        }
-        calls.add(new Call("save"));
-        calls.add(new Call("passHours", 1));
-        calls.add(new Call("print", 5, 7));
-        addText(calls, "sheet;sheet;sheet;sheet;sheet;sheet;sheet;sheet;rack 0;out 0");
-        return calls;
     }
 
     /** Returns the calls of a name with every combination of the values of its arguments. */
@@ -143,7 +98,7 @@ public final class GridTest {
     private static void compare(List<Call> before) {
         List<Call> asked = new ArrayList<>();
         QUESTIONS.forEach((name, values) -> asked.addAll(grid(name, values)));
-        agree(before, asked);
+        Runs.agree(before, asked);
         List<Call> shortly = new ArrayList<>();
         QUESTIONS.forEach((name, values) -> {
             if (values.length < 2) {
@@ -158,20 +113,8 @@ public final class GridTest {
                 calls.add(new Call("undo"));
                 calls.add(new Call("hour"));
                 calls.add(new Call("undoCount"));
-                agree(before, calls);
+                Runs.agree(before, calls);
             }
         });
-    }
-
-    /** Makes calls to shops that had the same calls before, each up to its last promised answer. */
-    private static void agree(List<Call> before, List<Call> calls) {
-        int most = 512 - before.size();
-        for (int first = 0; first < calls.size(); first += most) {
-            StarPress real = Call.realAfter(before);
-            PlainModel model = Call.modelAfter(before);
-            for (Call call : calls.subList(first, Math.min(calls.size(), first + most))) {
-                call.agrees(real, model);
-            }
-        }
     }
 }

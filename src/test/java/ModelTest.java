@@ -5,7 +5,6 @@ import java.util.Random;
 /** Makes the same calls to the class and to PlainModel, and compares every answer and everything that can be asked. */
 public final class ModelTest {
     private static final int RUNS = 200;
-    private static final int CALLS = 512;
     private static final int CALLS_PER_LOOK = 29;
     // Later looks would need many shops that had all calls before.
     private static final int LATEST_LOOK = 400;
@@ -17,17 +16,6 @@ public final class ModelTest {
         "print", "print", "print", "print", "print", "print", "putInRack", "putInRack", "takeOut", "takeOut",
         "addInk", "addInk", "passHours", "passHours", "undo", "undo", "undo", "save", "restore", "writeRow",
         "sheetByMisprints", "matches", "execute", "text", "text", "text",
-    };
-    private static final String[] ASKED_ONCE = {
-        "plateCount", "sheetCount", "hour", "refusalReason", "refusalDetail", "meanWetness", "smearedFraction",
-        "isConsistent", "errorPosition", "failedCommand", "undoCount",
-    };
-    private static final String[] ASKED_BY_INDEX = {
-        "inkOf", "starCount", "shiftX", "shiftY", "wouldSmear", "wetness", "smears", "misprints", "misprintsBySets",
-        "sheetByMisprints", "rackPlace", "sheetInRack", "drops", "hoursUntilDry", "hoursUntilDryAtOnce",
-    };
-    private static final String[] ASKED_BY_PAIR = {
-        "mostMatches", "mostMatchesByPairs", "bestShiftX", "bestShiftY", "placesOf",
     };
 
     private final Random random;
@@ -49,10 +37,10 @@ public final class ModelTest {
 
     private void run() {
         int nextLook = CALLS_PER_LOOK;
-        while (calls.size() < CALLS) {
+        while (calls.size() < Runs.MOST_CALLS) {
             boolean agrees = nextStep();
             if (calls.size() >= nextLook && calls.size() <= LATEST_LOOK) {
-                agrees &= agreeEverywhere();
+                agrees &= Runs.agree(calls, Runs.questions(model));
                 nextLook = calls.size() + CALLS_PER_LOOK;
             }
             if (!agrees) {
@@ -111,10 +99,10 @@ public final class ModelTest {
             spoil(text);
         }
         boolean agrees = true;
-        for (int index = 0; index < text.length() && calls.size() < CALLS; index++) {
+        for (int index = 0; index < text.length() && calls.size() < Runs.MOST_CALLS; index++) {
             agrees &= agree("feed", text.charAt(index));
         }
-        return agrees && (calls.size() >= CALLS || random.nextInt(8) == 0 || agree("execute"));
+        return agrees && (calls.size() >= Runs.MOST_CALLS || random.nextInt(8) == 0 || agree("execute"));
     }
 
     private void spoil(StringBuilder text) {
@@ -142,54 +130,6 @@ public final class ModelTest {
             case 7 -> "hour " + number;
             default -> "print " + a + ">" + b;
         };
-    }
-
-    /** Asks shops that had the same calls, each up to its last promised answer. */
-    private boolean agreeEverywhere() {
-        List<Call> questions = questions();
-        int most = CALLS - calls.size();
-        StarPress asked = real;
-        boolean agrees = true;
-        for (int index = 0; index < questions.size(); index++) {
-            if (index % most == 0) {
-                asked = Call.realAfter(calls);
-            }
-            agrees &= questions.get(index).agrees(asked, model);
-        }
-        return agrees;
-    }
-
-    private List<Call> questions() {
-        List<Call> questions = new ArrayList<>();
-        for (String name : ASKED_ONCE) {
-            questions.add(new Call(name));
-        }
-        for (int index = -1; index <= 16; index++) {
-            questions.add(new Call("outputCharacter", index));
-        }
-        int most = Math.max(model.plateCount(), model.sheetCount());
-        for (int first = -1; first <= most; first++) {
-            for (String name : ASKED_BY_INDEX) {
-                questions.add(new Call(name, first));
-            }
-            for (int second = -1; second <= 8; second++) {
-                for (String name : ASKED_BY_PAIR) {
-                    questions.add(new Call(name, first, second));
-                }
-            }
-        }
-        addPlaceQuestions(questions, "hasStar", model.plateCount());
-        addPlaceQuestions(questions, "colour", model.sheetCount());
-        addPlaceQuestions(questions, "intended", model.sheetCount());
-        return questions;
-    }
-
-    private static void addPlaceQuestions(List<Call> questions, String name, int count) {
-        for (int index = 0; index < count; index++) {
-            for (int place = 0; place < 128; place++) {
-                questions.add(new Call(name, index, place % 16, place / 16));
-            }
-        }
     }
 
     private boolean agree(String name, Object... arguments) {

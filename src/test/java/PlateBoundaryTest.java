@@ -109,6 +109,20 @@ public final class PlateBoundaryTest {
                 Check.same("drops of ink " + other, x.drops(other), other == ink ? 500 : 60);
             }
         }
+        mostDropsOfAll();
+    }
+
+    private static void mostDropsOfAll() {
+        StarPress x = new StarPress();
+        for (int drops : new int[] {99, 99, 99, 99, 44}) {
+            for (int ink : Shops.INKS) {
+                x.addInk(ink, drops);
+            }
+        }
+        for (int ink : Shops.INKS) {
+            Check.same("drops of ink " + ink, x.drops(ink), 500);
+            Check.throwsState("drop 501 of ink " + ink, () -> x.addInk(ink, 1));
+        }
     }
 
     private static void dropsAtOnce() {

@@ -2,6 +2,7 @@
 public final class RackAndHourBoundaryTest {
     public static void main(String[] args) {
         Check.part("Rack: 3 places, numbered from 0", RackAndHourBoundaryTest::places);
+        Check.part("Rack: each sheet at each place", RackAndHourBoundaryTest::eachSheetAtEachPlace);
         Check.part("Rack: the free place with the smallest number", RackAndHourBoundaryTest::smallestFreePlace);
         Check.part("Rack: refused if there is none", RackAndHourBoundaryTest::fullRack);
         Check.part("Rack: a sheet that is in it, and one that is not", RackAndHourBoundaryTest::insideAndOutside);
@@ -31,6 +32,27 @@ public final class RackAndHourBoundaryTest {
         for (int place : new int[] {Shops.MIN, -1, 3, 4, Shops.MAX}) {
             Check.throwsIndex("place " + place, () -> x.sheetInRack(place));
             Check.throwsIndex("place " + place + " of an empty rack", () -> new StarPress().sheetInRack(place));
+        }
+    }
+
+    private static void eachSheetAtEachPlace() {
+        for (int sheet = 0; sheet < 8; sheet++) {
+            for (int place = 0; place < 3; place++) {
+                StarPress x = Shops.withSheets(8);
+                x.addPlate(1);
+                int at = sheet;
+                for (int before = 1; before <= place; before++) {
+                    x.putInRack((sheet + before) % 8);
+                }
+                Check.same("place", x.putInRack(sheet), place);
+                Check.same("sheet", x.sheetInRack(place), sheet);
+                Check.same("place of the sheet", x.rackPlace(sheet), place);
+                Shops.refused(x, () -> x.print(0, at), StarPress.IN_RACK, place);
+                Check.same("the place before", x.takeOut(sheet), place);
+                int free = place;
+                Check.throwsElement("the free place", () -> x.sheetInRack(free));
+                Check.same("a print outside", x.print(0, sheet), 0);
+            }
         }
     }
 

@@ -1,4 +1,7 @@
 import java.io.IOException;
+import java.lang.reflect.Field;
+import java.lang.reflect.Method;
+import java.lang.reflect.Modifier;
 import java.nio.file.Files;
 import java.nio.file.Path;
 import java.util.ArrayList;
@@ -11,6 +14,8 @@ public final class RulesTest {
     private static final Path SOURCE = Path.of("src", "main", "java", "StarPress.java");
     private static final int LONGEST_METHOD = 60;
     private static final int MOST_CLASSES = 12;
+    private static final int MOST_FIELDS = 20;
+    private static final int MOST_PARAMETERS = 7;
 
     // Each row: the number of the rule and what must not be found in the code.
     private static final String[][] BANNED = {
@@ -38,6 +43,7 @@ public final class RulesTest {
         Check.part("banned words", RulesTest::checkBanned);
         Check.part("throws", RulesTest::checkThrows);
         Check.part("sizes", RulesTest::checkSizes);
+        Check.part("classes", RulesTest::checkClasses);
         Check.part("signs", () -> Check.isTrue("all signs are plain", text.chars().allMatch(c -> c < 128)));
         Check.finish("RulesTest");
     }
@@ -61,6 +67,32 @@ public final class RulesTest {
     private static void checkThrows() {
         Check.same("every throw is of a new exception with a written text",
                 found("throw new \\w+Exception\\(\"[ -~]+\"\\);").size(), found("\\bthrow\\b").size());
+    }
+
+    private static void checkClasses() {
+        List<Class<?>> classes = new ArrayList<>(List.of(StarPress.class.getDeclaredClasses()));
+        classes.add(StarPress.class);
+        for (Class<?> type : classes) {
+            int fields = 0;
+            for (Field field : type.getDeclaredFields()) {
+                boolean isStatic = Modifier.isStatic(field.getModifiers());
+                fields += isStatic ? 0 : 1;
+                Check.isTrue(field + " has an allowed type", isAllowed(field.getType(), classes));
+                Check.isTrue(field + " is final", !isStatic || Modifier.isFinal(field.getModifiers()));
+                Check.isTrue(field + " is a field of an enum", isStatic || !type.isEnum()
+                        || field.getType().isPrimitive() || field.getType() == String.class);
+            }
+            Check.isTrue("fields of " + type, fields <= MOST_FIELDS);
+            for (Method method : type.getDeclaredMethods()) {
+                Check.isTrue("parameters of " + method, method.getParameterCount() <= MOST_PARAMETERS);
+            }
+        }
+    }
+
+    /** Tells if a field can have a type: a primitive one, a text, a class inside, or an array of these. */
+    private static boolean isAllowed(Class<?> type, List<Class<?>> inside) {
+        Class<?> held = type.isArray() ? type.getComponentType() : type;
+        return held.isPrimitive() || inside.contains(held) || type == String.class;
     }
 
     private static void checkSizes() {

@@ -22,6 +22,8 @@ public final class SheetBoundaryTest {
         Check.part("Printing: if the wetness is more than 0, it smears once", SheetBoundaryTest::smearsOnce);
         Check.part("Printing: places with x from 1 to 15 smear", SheetBoundaryTest::smearedPlaces);
         Check.part("Printing: all inks that the place to the left had before", SheetBoundaryTest::smearedInks);
+        Check.part("Printing: it smears each time, by one place", SheetBoundaryTest::smearsEachTime);
+        Check.part("Printing: a wet sheet without colours smears, too", SheetBoundaryTest::smearsWithoutColours);
         Check.part("Printing: it smears before the stars are printed", SheetBoundaryTest::smearsFirst);
         Check.part("Printing: the moved place, if it is on the sheet", SheetBoundaryTest::movedPlaces);
         Check.part("Printing: the place of the star gets its intended colour", SheetBoundaryTest::intendedPlaces);
@@ -39,8 +41,10 @@ public final class SheetBoundaryTest {
         Check.part("misprints: a place with several wrong inks", SheetBoundaryTest::severalWrongInks);
         Check.part("sheetByMisprints: no such rank", SheetBoundaryTest::ranks);
         Check.part("sheetByMisprints: of several, the smallest index", SheetBoundaryTest::equalRanks);
+        Check.part("sheetByMisprints: of several with many misprints", SheetBoundaryTest::equalRanksOfMany);
         Check.part("meanWetness and smearedFraction: no sheets", SheetBoundaryTest::noSheets);
         Check.part("meanWetness and smearedFraction: one sheet and all", SheetBoundaryTest::allSheets);
+        Check.part("meanWetness and smearedFraction: in the rack", SheetBoundaryTest::sheetsInRack);
         Check.part("writeRow: y from 0 to 7", SheetBoundaryTest::rows);
         Check.part("outputCharacter: empty at first", SheetBoundaryTest::emptyOutput);
         Check.part("outputCharacter: from 0 to 15", SheetBoundaryTest::outputBounds);
@@ -261,6 +265,33 @@ public final class SheetBoundaryTest {
         Check.same("smeared twice", Shops.row(x, 0, 3), "13327774......13");
     }
 
+    private static void smearsEachTime() {
+        StarPress x = Shops.withSheets(1);
+        for (int plate = 0; plate < 3; plate++) {
+            x.addPlate(Shops.INKS[plate]);
+            x.addStar(plate, 0, 3);
+            x.print(plate, 0);
+            x.passHours(2);
+        }
+        x.print(0, 0);
+        for (int times = 1; times <= 20; times++) {
+            x.print(0, 0);
+            Check.same("smears", x.smears(0), times);
+            int reached = Math.min(15, times);
+            Check.same("row", Shops.row(x, 0, 3), "7".repeat(reached + 1) + ".".repeat(15 - reached));
+        }
+    }
+
+    private static void smearsWithoutColours() {
+        StarPress x = Shops.withStars(5, 1);
+        x.setShift(0, 0, -1);
+        for (int times = 0; times < 3; times++) {
+            Check.same("stars beside", x.print(0, 0), 5);
+            Check.same("smears", x.smears(0), times);
+            Check.same("places without colour", x.placesOf(0, 0), 128);
+        }
+    }
+
     private static void smearsFirst() {
         StarPress x = Shops.withStars(1, 1);
         x.addPlate(4);
@@ -352,6 +383,10 @@ public final class SheetBoundaryTest {
             Check.same("drops of the other inks", x.drops(2) + x.drops(4), 120);
             x.print(0, 0);
             Check.same("drops", x.drops(1), 60 - 2 * stars);
+            StarPress beside = Shops.withStars(stars, 1);
+            Check.same("stars beside", beside.setShift(0, 0, -3), stars);
+            Check.same("stars beside", beside.print(0, 0), stars);
+            Check.same("drops", beside.drops(1), 60 - stars);
         }
     }
 
@@ -519,6 +554,26 @@ public final class SheetBoundaryTest {
         }
     }
 
+    private static void equalRanksOfMany() {
+        StarPress x = Shops.withStars(20, 8);
+        x.addInk(1, 99);
+        x.addInk(1, 1);
+        x.setShift(0, 0, 3);
+        for (int sheet : new int[] {6, 1, 5}) {
+            x.print(0, sheet);
+            x.print(0, sheet);
+        }
+        for (int sheet : new int[] {0, 3}) {
+            x.print(0, sheet);
+        }
+        int[] misprints = {40, 41, 0, 40, 0, 41, 41, 0};
+        int[] due = {2, 4, 7, 0, 3, 1, 5, 6};
+        for (int sheet = 0; sheet < 8; sheet++) {
+            Check.same("misprints of " + sheet, x.misprints(sheet), misprints[sheet]);
+            Check.same("rank " + sheet, x.sheetByMisprints(sheet), due[sheet]);
+        }
+    }
+
     private static void noSheets() {
         StarPress x = new StarPress();
         Check.throwsArithmetic("meanWetness", x::meanWetness);
@@ -544,6 +599,22 @@ public final class SheetBoundaryTest {
                 x.print(0, sheet);
                 Check.same("fraction", x.smearedFraction(), (float) (sheet + 1) / (float) count);
             }
+        }
+    }
+
+    private static void sheetsInRack() {
+        for (int count = 1; count <= 3; count++) {
+            StarPress x = Shops.withStars(5, count);
+            for (int sheet = 0; sheet < count; sheet++) {
+                x.print(0, sheet);
+                x.print(0, sheet);
+                x.putInRack(sheet);
+            }
+            Check.same("mean", x.meanWetness(), 2.0);
+            Check.same("fraction", x.smearedFraction(), 1.0f);
+            x.addSheet();
+            Check.same("mean", x.meanWetness(), 2.0 * count / (count + 1.0));
+            Check.same("fraction", x.smearedFraction(), (float) count / (float) (count + 1));
         }
     }
 

@@ -47,7 +47,7 @@ public final class TextBoundaryTest {
             Check.same("length", x.feed(SIXTY_SIGNS.charAt(length - 1)), length);
         }
         Check.throwsState("character 61", () -> x.feed(';'));
-        Check.throwsState("character 61 again", () -> x.feed('s'));
+        Check.throwsState("character 61 again", () -> x.feed('x'));
         Check.same("the commands of 60 characters", x.execute(), 10);
         Check.same("sheets", x.sheetCount(), 8);
         Check.same("length afterwards", x.feed('o'), 1);
@@ -398,6 +398,12 @@ public final class TextBoundaryTest {
         Shops.feedAll(z, "rack 0;rack 0");
         Check.throwsUnsupported("a sheet in the rack", z::execute);
         Check.same("the reason stays", z.refusalReason(), StarPress.IN_RACK);
+        Shops.feedAll(z, "rack 0;print 0>");
+        Check.throwsArgument("a malformed text", z::execute);
+        Check.same("the reason stays", z.refusalReason(), StarPress.IN_RACK);
+        Check.same("commands", Shops.executed(z, "rack 1;rack 0;sheet"), 3);
+        Check.same("the reason stays", z.refusalReason(), StarPress.IN_RACK);
+        Check.same("the detail stays", z.refusalDetail(), 0);
     }
 
     private static void keptErrorPosition() {

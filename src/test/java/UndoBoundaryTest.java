@@ -6,6 +6,7 @@ import java.util.function.Supplier;
 public final class UndoBoundaryTest {
     public static void main(String[] args) {
         Check.part("Undo: a successful call of these is a change", UndoBoundaryTest::changes);
+        Check.part("Undo: ten commands are one change", UndoBoundaryTest::manyCommands);
         Check.part("Undo: no other call is a change", UndoBoundaryTest::otherCalls);
         Check.part("Undo: at most the latest 8 changes", UndoBoundaryTest::latestEight);
         Check.part("Undo: changes that are not undone", UndoBoundaryTest::afterUndo);
@@ -97,6 +98,16 @@ public final class UndoBoundaryTest {
 
     private static void change(StarPress x) {
         x.passHours(1);
+    }
+
+    private static void manyCommands() {
+        StarPress x = new StarPress();
+        x.passHours(1);
+        Check.same("commands", Shops.executed(x, "sheet;sheet;sheet;sheet;sheet;sheet;sheet;sheet;rack 0;out 0"), 10);
+        Check.same("changes", x.undoCount(), 2);
+        Check.same("changes left", x.undo(), 1);
+        Check.same("sheets", x.sheetCount(), 0);
+        Check.same("hour", x.hour(), 1);
     }
 
     private static void otherCalls() {
