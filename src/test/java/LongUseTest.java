@@ -22,7 +22,8 @@ public final class LongUseTest {
         "outputCharacter 0", "isConsistent", "\"sheet", "\"sheet, undo", "\"hour 50", "\"rack 0;out 0", "\"out 9",
         "\"shee", "\"", "'s", "'s, \"heet", "errorPosition", "failedCommand", "undo", "undo, passHours 1, passHours 2",
         "undoCount", "save", "save, passHours 1", "restore", "restore, passHours 1", "save, passHours 1, restore",
-        "passHours 1, undo, undo",
+        "passHours 1, undo, undo", "passHours 50, save, restore, hour", "passHours 50, passHours 50, undo, hour",
+        "print 0 1, addInk 1 2, save, restore, smears 1", "print 0 1, addInk 1 2, undo, smears 1",
     };
 
     private static final String BEGINNING = "addPlate 1, addPlate 4, addStar 0 0 0, addStar 0 3 3, addStar 1 15 0, "
